@@ -330,10 +330,12 @@ public final class SmellMoorings {
         int first = NONE;
         for (int s = 0; s <= LAST_SMELL; s++) {
             Rows.set(trial.sailorSmell, more, s);
-            int noses = bitsThatFit(trial.sailorNose, more, 1, MOST_NOSE);
-            many += Integer.bitCount(noses);
-            if (first == NONE && noses != 0) {
-                first = 10 * s + Integer.numberOfTrailingZeros(noses);
+            for (int nose = 1; nose <= MOST_NOSE; nose++) {
+                Rows.set(trial.sailorNose, more, nose);
+                if (sightings.areSoIn(trial)) {
+                    many++;
+                    first = first == NONE ? 10 * s + nose : first;
+                }
             }
         }
         return what == 0 ? many : first;
@@ -356,10 +358,14 @@ public final class SmellMoorings {
         int above = Rows.at(chance, here);
         // What is below has no prime in it but 2 and 5, each n times.
         for (int h = 0; h < n; h++) {
-            int by = above % 2 == 0 && below % 2 == 0 ? 2 : 1;
-            by = above % 5 == 0 && below % 5 == 0 ? by * 5 : by;
-            above /= by;
-            below /= by;
+            if (above % 2 == 0 && below % 2 == 0) {
+                above /= 2;
+                below /= 2;
+            }
+            if (above % 5 == 0 && below % 5 == 0) {
+                above /= 5;
+                below /= 5;
+            }
         }
         return part == 0 ? above : below;
     }
@@ -722,7 +728,7 @@ public final class SmellMoorings {
             return true;
         }
 
-        /** The place of the first item that is not so, up to which the field is told; NONE if all are. */
+        /** The place of the first item that is not so, behind which the field is told no more; NONE if all are so. */
         int readInto(Field field) {
             field.clear();
             place = 0;

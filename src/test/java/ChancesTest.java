@@ -44,6 +44,8 @@ public final class ChancesTest {
         ship.wind(0, 20);
         likely(ship, 7, 3, 1, 1);
         likely(Due.laid("s8,4,2;w2,9;p0,0,0;c0,5,1;"), 7, 3, 1, 1);
+        likely(Due.laid("s0,0,0;w2,1;p0,0,0;c0,5,1;"), 2, 10, 1, 1);
+        likely(Due.laid("s8,8,0;w1,1;p0,0,0;c0,5,1;"), 2, 5, 1, 4);
     }
 
     private static void promise26LikelyToAndFro() {
@@ -115,6 +117,8 @@ public final class ChancesTest {
         ship.take(0);
         voyage(ship, 1, 4, 4, 4, 4);
         voyage(ship, 1, 5, 5, 4, 4);
+        // By 3 the first three draws are none of these two.
+        voyage(Due.laid("s0,4,0;p8,4,0;c1,0,5;"), 3, 3, 3, 4, 0);
         // Of four posts it is 1, 3 and 1, be 0 taken away or not.
         ship = Due.laid("s4,4,2;p4,0,0;p4,0,0;p4,0,0;p4,8,0;c1,3,5;");
         voyage(ship, 1, 3, 4, 5, 2);

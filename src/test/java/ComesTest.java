@@ -76,6 +76,12 @@ public final class ComesTest {
         ship = Due.laid("s4,0,0;p4,8,0;c1,0,5;");
         DUE.due("gale(1) against the cook", 20, ship.gale(1));
         DUE.due("gale(3) with the cook", NONE, ship.gale(3));
+        ship = Due.laid("s4,4,0;w3,2;p0,0,0;c1,5,9;");
+        DUE.due("gale(1): none but 0", 0, ship.gale(1));
+        ship.stands();
+        ship.put(0, 8, 4);
+        ship.smell(0, 5);
+        DUE.due("gale(4) by how all stands now", 9, ship.gale(4));
         ship = Due.laid("s8,4,0;p8,0,0;c1,0,5;");
         DUE.due("gale(2): off the field from 5 on", 20, ship.gale(2));
     }
@@ -97,6 +103,16 @@ public final class ComesTest {
         DUE.due("hold() not in its own cell", NONE, ship.hold());
         ship = Due.laid("s4,4,5;w2,6;p0,0,0;p0,1,0;p0,2,0;p0,3,0;p0,4,0;c1,3,5;");
         DUE.due("hold() by a sixth post", 300, ship.hold());
+        ship = Due.laid("s1,4,5;w2,6;p0,0,0;p0,1,0;p0,2,0;p0,3,0;p0,4,0;c1,3,5;");
+        DUE.due("hold() by a sixth post further down", 330, ship.hold());
+        ship = Due.laid("s4,4,5;w4,6;p0,0,0;c1,5,5;");
+        DUE.due("hold() by the last smell", 508, ship.hold());
+        ship = Due.laid("s4,4,5;w2,6;p0,0,1;c1,0,5;");
+        DUE.due("hold() by the first smell and cell", 0, ship.hold());
+        ship = Due.laid("s4,7,5;w1,6;p0,0,1;c1,0,5;");
+        DUE.due("hold() in the last row", 84, ship.hold());
+        ship = Due.laid("s7,4,5;w4,6;p0,0,1;c3,0,3;");
+        DUE.due("hold() in the last column", 38, ship.hold());
     }
 
     private static void promise18HoldOrder() {
@@ -152,6 +168,12 @@ public final class ComesTest {
         DUE.due("brings(0, 8, 1)", 8, ship.brings(0, 8, 1));
         DUE.due("brings(2, 0, 0)", 402, ship.brings(2, 0, 0));
         DUE.due("brings(2, 0, 1)", 2, ship.brings(2, 0, 1));
+        ship = Due.laid("s8,7,0;p0,0,0;c1,5,3;");
+        DUE.due("brings by the last smell and cell", 588, ship.brings(8, 8, 0));
+        // By 3, 5 it goes left, down and with the wind right; by 4, 5 at once, though that is further on.
+        ship = Due.laid("s4,4,0;w2,1;p8,3,1;c1,1,3;");
+        DUE.due("brings: soonest before first", 154, ship.brings(4, 5, 0));
+        DUE.due("brings: soonest before first", 1, ship.brings(4, 5, 1));
     }
 
     private static void promise20Keeps() {
@@ -208,6 +230,8 @@ public final class ComesTest {
         DUE.due("instead(): the smell that a cook wants, on the second", 13, ship.instead());
         ship = Due.laid("s4,4,9;p0,0,0;c1,1,9;");
         DUE.due("instead(): its own is not one", 1, ship.instead());
+        ship = Due.laid("s4,4,5;w2,6;p0,4,0;c1,5,5;");
+        DUE.due("instead(): the last smell", 5, ship.instead());
         ship = Due.laid("s4,4,9;p0,0,1;c1,1,9;");
         DUE.due("instead(): 0", 0, ship.instead());
     }

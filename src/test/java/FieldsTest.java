@@ -165,6 +165,7 @@ public final class FieldsTest {
         ship.keep();
         ship.seen(1, 1, 1);
         ship.seen(1, 1, 1);
+        ship.stands();
         DUE.due("lay() of the text that stays", 1, ship.lay());
         int[] counts = {1, 1, 0, 0, 0, 0, 2, 9, 0, 0, 0, 0, 26};
         for (int what = 0; what < counts.length; what++) {
@@ -173,6 +174,16 @@ public final class FieldsTest {
         DUE.due("post(0, 3)", 0, ship.post(0, 3));
         DUE.due("undo()", NO, ship.undo());
         DUE.due("back()", NO, ship.back());
+        ship.pass(2);
+        ship.wind(3, 7);
+        ship.stands();
+        ship.wipe();
+        Due.writeAll(ship, "p1,1,1;c1,1,1;c1,1,1;");
+        DUE.due("lay() without s and w", 2, ship.lay());
+        int[] without = {1, 2, 0, 4, 4, 2, 0, 0, 0, 0, 0, 0, 21};
+        for (int what = 0; what < without.length; what++) {
+            DUE.due("laid without s and w: count(" + what + ")", without[what], ship.count(what));
+        }
     }
 
     private static void promise6Post() {
