@@ -170,6 +170,10 @@ public final class ComesTest {
         DUE.due("brings(2, 0, 1)", 2, ship.brings(2, 0, 1));
         ship = Due.laid("s8,7,0;p0,0,0;c1,5,3;");
         DUE.due("brings by the last smell and cell", 588, ship.brings(8, 8, 0));
+        // One that is homesick draws with 9 at most from a corner; off the field there is no cell.
+        ship = Due.laid("s4,4,9;p0,0,0;c2,3,1;");
+        DUE.due("brings by no cell of the field", NONE, ship.brings(5, 4, 0));
+        DUE.due("brings by no cell of the field", NONE, ship.brings(3, 4, 1));
         // By 3, 5 it goes left, down and with the wind right; by 4, 5 at once, though that is further on.
         ship = Due.laid("s4,4,0;w2,1;p8,3,1;c1,1,3;");
         DUE.due("brings: soonest before first", 154, ship.brings(4, 5, 0));
