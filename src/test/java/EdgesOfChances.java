@@ -75,7 +75,7 @@ final class EdgesOfChances {
             SmellMoorings corner = Due.laid(text + "p4,4,0;c0,5,1;");
             likely(corner, 1, 3, 3, 10);
             likely(corner, 2, 3, 9, 100);
-            corner.behind(5, 0);
+            corner.behind(40, 0);
             likely(corner, 1, 3, 3, 10);
         }
     }

@@ -322,6 +322,15 @@ final class EdgesOfComing {
         s.due("8 hours", 8, ship.brings(0, 8, 1));
         s.due("by a nearer one", 402, ship.brings(2, 0, 0));
         s.due("2 hours", 2, ship.brings(2, 0, 1));
+        // From edge to edge, through each cell once, whatever stands there.
+        for (int i = 0; i <= 8; i++) {
+            SmellMoorings down = Due.laid("s" + i + ",0,0;w3,1;p0,0,0;c0,5,1;");
+            s.due("down from " + i + ", 0", 8, down.brings(i, 8, 1));
+            s.due("by the first of all", 0, down.brings(i, 8, 0));
+            SmellMoorings right = Due.laid("s0," + i + ",0;w2,1;p0,0,0;c0,5,1;");
+            s.due("right from 0, " + i, 8, right.brings(8, i, 1));
+            s.due("by the first of all", 0, right.brings(8, i, 0));
+        }
     }
 
     private void bringsIn40Hours() {
