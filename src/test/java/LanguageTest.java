@@ -7,6 +7,7 @@ import java.lang.reflect.Modifier;
 import java.nio.charset.StandardCharsets;
 import java.nio.file.Files;
 import java.nio.file.Path;
+import java.util.ArrayList;
 import java.util.Arrays;
 import java.util.List;
 import java.util.Set;
@@ -111,6 +112,7 @@ public final class LanguageTest {
         while (imports.find()) {
             yes("import " + imports.group(1), imports.group(1).equals("java.util.Arrays"));
         }
+        library(text);
         int line = 0;
         int open = 0;
         for (String l : text.split("\n")) {
@@ -121,6 +123,22 @@ public final class LanguageTest {
             if (l.matches("    (    )?\\}") && open > 0) {
                 yes("the method from line " + open + " is short", line - open <= 60);
                 open = 0;
+            }
+        }
+    }
+
+    /** Of the library only what LANGUAGE.md lists and the class needs. */
+    private static void library(String text) {
+        Set<String> allowed = Set.of("Math.abs", "Math.max", "Math.min", "Integer.bitCount", "Arrays.fill", "System.arraycopy");
+        Matcher called = Pattern.compile("\\b(Math|Integer|Long|Arrays|System|String|Character|Objects)\\.(\\w+)").matcher(text);
+        while (called.find()) {
+            yes(called.group(), allowed.contains(called.group()));
+        }
+        List<Class<?>> classes = new ArrayList<>(List.of(SmellMoorings.class.getDeclaredClasses()));
+        classes.add(SmellMoorings.class);
+        for (Class<?> c : classes) {
+            for (Method m : c.getDeclaredMethods()) {
+                yes(m.getName() + " has seven parameters at most", m.getParameterCount() <= 7);
             }
         }
     }
